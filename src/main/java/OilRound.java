@@ -156,7 +156,9 @@ public final class OilRound {
         if (isNoRound(set)) return BAD;
         int need = needOf(set);
         switch (what) {
-            case 0: return route.wayOf(set, houses);
+            case 0:
+                route.prepare(set, houses);
+                return route.way();
             case 1: return need <= lorryHolds && need <= inDepot ? 1 : 0;
             case 2: return need;
             default: return BAD;
@@ -165,7 +167,8 @@ public final class OilRound {
 
     public int stop(int set, int i) {
         if (isNoRound(set)) return BAD;
-        return route.houseOn(set, i, houses);
+        route.prepare(set, houses);
+        return route.houseOn(i);
     }
 
     public int fill(int house, int q) {
@@ -299,6 +302,8 @@ public final class OilRound {
 
     /** A house with its tank, its habit, and what went since its last fill. */
     private static final class House {
+        private static final int KNOWN_FILLS = 3;
+
         final int x;
         final int y;
         final int holds;
@@ -398,18 +403,29 @@ public final class OilRound {
         boolean isOf(int kind) {
             switch (kind) {
                 case PLAIN: return true;
-                case KNOWN: return fills >= 3 && !everNoted;
-                case STEADY: return isOf(KNOWN) && b == 0 && d == 0;
-                case LEAKY: return note == LEAK;
+                case KNOWN: return isKnown();
+                case STEADY: return isSteady();
+                case LEAKY: return isLeaky();
                 default: return false;
             }
         }
 
         int toldKind() {
-            for (int kind = LEAKY; kind > PLAIN; kind--) {
-                if (isOf(kind)) return kind;
-            }
-            return PLAIN;
+            if (isLeaky()) return LEAKY;
+            if (isSteady()) return STEADY;
+            return isKnown() ? KNOWN : PLAIN;
+        }
+
+        private boolean isLeaky() {
+            return note == LEAK;
+        }
+
+        private boolean isSteady() {
+            return isKnown() && b == 0 && d == 0;
+        }
+
+        private boolean isKnown() {
+            return fills >= KNOWN_FILLS && !everNoted;
         }
     }
 
@@ -458,17 +474,15 @@ public final class OilRound {
         private int keptSet = 0;
         private int size = 0;
 
-        int wayOf(int set, House[] houses) {
-            prepare(set, houses);
+        int way() {
             return leastAt((1 << size) - 1, DEPOT_SPOT);
         }
 
-        int houseOn(int set, int i, House[] houses) {
-            prepare(set, houses);
+        int houseOn(int i) {
             return i < 0 || i >= size || i >= order.length ? NONE : order[i];
         }
 
-        private void prepare(int set, House[] houses) {
+        void prepare(int set, House[] houses) {
             if (set == keptSet) return;
             keptSet = set;
             gather(set, houses);
@@ -552,27 +566,38 @@ public final class OilRound {
         private static final int PAID_NAME = 4;
         private static final int NUMBER = 5;
         private static final int SEMICOLON = 6;
-        private static final int AT = 7;
+        private static final int AT_SIGN = 7;
         private static final int STRANGE = 8;
 
+        private static final int AHEAD_OF_PLAN = 0;
+        private static final int AHEAD_OF_HOUSE = 1;
+        private static final int AHEAD_OF_WAY = 2;
+        private static final int AHEAD_OF_LITRES = 3;
+        private static final int AHEAD_OF_SIGN = 4;
+        private static final int AHEAD_OF_PRICE = 5;
+        private static final int AHEAD_OF_END = 6;
+
+        private static final int NO_FAULT = 0;
         private static final int MISPLACED = 1;
         private static final int NO_HOUSE = 2;
 
         private final byte[] bytes = new byte[MOST_BYTES];
         int size = 0;
-        int latestFault = 0;
+        int latestFault = NO_FAULT;
         private int next = 0;
         private int token = END;
         private int start = 0;
         private int number = 0;
+        private int state = AHEAD_OF_PLAN;
         private House toldHouse = null;
         private int way = BY_DAY;
         private int litres = 0;
         private int ownPrice = 0;
 
         int append(long w, int n) {
-            if (size + n > bytes.length) return FULL;
-            for (int left = n - 1; left >= 0 && size < bytes.length; left--) {
+            if (n > bytes.length - size) return FULL;
+            for (int left = n - 1; left >= 0; left--) {
+                if (size < 0 || size >= bytes.length) return FULL;
                 bytes[size] = (byte) (w >> 8 * left);
                 size++;
             }
@@ -584,65 +609,92 @@ public final class OilRound {
             int plans = readOnce(houses, false);
             if (plans >= 0) readOnce(houses, true);
             size = 0;
+            toldHouse = null;
             return plans;
         }
 
         private int readOnce(House[] houses, boolean inForce) {
             next = 0;
+            state = AHEAD_OF_PLAN;
             int plans = 0;
-            while (plans < MOST_BYTES) {
+            for (int tokens = 0; tokens <= MOST_BYTES; tokens++) {
                 readToken();
-                if (token == END) return plans;
-                if (!readPlan(houses)) return FAULT_ANSWER - start;
-                if (inForce && toldHouse != null) toldHouse.plan.become(way, litres, ownPrice);
+                if (token == END && state == AHEAD_OF_PLAN) break;
+                int fault = takeToken(houses);
+                if (fault != NO_FAULT) {
+                    latestFault = fault;
+                    return FAULT_ANSWER - start;
+                }
+                if (token != SEMICOLON) continue;
                 plans++;
+                if (inForce && toldHouse != null) toldHouse.plan.become(way, litres, ownPrice);
             }
             return plans;
         }
 
-        private boolean readPlan(House[] houses) {
-            if (token != HOUSE_NAME) return isFault(MISPLACED);
-            if (!wants(NUMBER)) return false;
-            toldHouse = houseIn(houses, number);
-            if (toldHouse == null) return isFault(NO_HOUSE);
-            return readWay() && wants(SEMICOLON);
-        }
-
-        private boolean readWay() {
-            litres = 0;
-            ownPrice = 0;
-            readToken();
-            switch (token) {
-                case DAY_NAME:
-                    way = BY_DAY;
-                    return true;
-                case CAP_NAME:
-                    way = BY_CAP;
-                    return readPrice();
-                case PAID_NAME:
-                    way = BY_PAID;
-                    if (!wants(NUMBER)) return false;
+        private int takeToken(House[] houses) {
+            if (!canStandHere()) return MISPLACED;
+            switch (state) {
+                case AHEAD_OF_PLAN:
+                    litres = 0;
+                    ownPrice = 0;
+                    state = AHEAD_OF_HOUSE;
+                    return NO_FAULT;
+                case AHEAD_OF_HOUSE:
+                    toldHouse = houseIn(houses, number);
+                    state = AHEAD_OF_WAY;
+                    return toldHouse == null ? NO_HOUSE : NO_FAULT;
+                case AHEAD_OF_WAY:
+                    takeWay();
+                    return NO_FAULT;
+                case AHEAD_OF_LITRES:
                     litres = number;
-                    return wants(AT) && readPrice();
+                    state = AHEAD_OF_SIGN;
+                    return NO_FAULT;
+                case AHEAD_OF_SIGN:
+                    state = AHEAD_OF_PRICE;
+                    return NO_FAULT;
+                case AHEAD_OF_PRICE:
+                    ownPrice = number;
+                    state = AHEAD_OF_END;
+                    return NO_FAULT;
                 default:
-                    return isFault(MISPLACED);
+                    state = AHEAD_OF_PLAN;
+                    return NO_FAULT;
             }
         }
 
-        private boolean readPrice() {
-            if (!wants(NUMBER)) return false;
-            ownPrice = number;
-            return true;
+        private boolean canStandHere() {
+            switch (state) {
+                case AHEAD_OF_PLAN:
+                    return token == HOUSE_NAME;
+                case AHEAD_OF_WAY:
+                    return token == DAY_NAME || token == CAP_NAME || token == PAID_NAME;
+                case AHEAD_OF_HOUSE:
+                case AHEAD_OF_LITRES:
+                case AHEAD_OF_PRICE:
+                    return token == NUMBER;
+                case AHEAD_OF_SIGN:
+                    return token == AT_SIGN;
+                default:
+                    return token == SEMICOLON;
+            }
         }
 
-        private boolean wants(int wanted) {
-            readToken();
-            return token == wanted || isFault(MISPLACED);
-        }
-
-        private boolean isFault(int fault) {
-            latestFault = fault;
-            return false;
+        private void takeWay() {
+            switch (token) {
+                case CAP_NAME:
+                    way = BY_CAP;
+                    state = AHEAD_OF_PRICE;
+                    return;
+                case PAID_NAME:
+                    way = BY_PAID;
+                    state = AHEAD_OF_LITRES;
+                    return;
+                default:
+                    way = BY_DAY;
+                    state = AHEAD_OF_END;
+            }
         }
 
         private void readToken() {
@@ -659,7 +711,7 @@ public final class OilRound {
                 token = numberToken();
             } else {
                 next++;
-                token = first == ';' ? SEMICOLON : first == '@' ? AT : STRANGE;
+                token = first == ';' ? SEMICOLON : first == '@' ? AT_SIGN : STRANGE;
             }
         }
 
