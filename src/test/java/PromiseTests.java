@@ -211,6 +211,11 @@ public final class PromiseTests {
         OilRound y = oneHouse(100, 0, 0, 50, 0);
         due("50 left", y.day(9), 0);
         due("0 left", y.day(9), 1);
+        // One litre is SAFE.
+        OilRound v = oneHouse(101, 0, 0, 50, 0);
+        v.day(0);
+        due("1 left", v.day(0), 0);
+        span(v, 0, 101, 1);
         // No use at all.
         OilRound z = oneHouse(100, 0, 0, 0, 0);
         due("nothing used", z.day(40), 0);
@@ -331,6 +336,13 @@ public final class PromiseTests {
         w.fill(0, 4);
         habit(w, 0, 1, 0, 1, 0);
 
+        // d with an a above 0, s being 1: q 9, n 2, a 3: c 4 (9 by 2 cut), d (9 - 6) by 1 = 3, a (9 - 3) by 2 = 3, b 9 - 8 = 1.
+        OilRound r = oneHouse(1000, 3, 0, 9, 9);
+        r.day(1);
+        r.day(0);
+        r.fill(0, 9);
+        habit(r, 0, 3, 1, 4, 3);
+
         // A fill of all the tank tells nothing; neither does one without a day.
         OilRound t = oneHouse(100, 0, 0, 50, 50);
         t.day(10);
@@ -417,6 +429,10 @@ public final class PromiseTests {
         due("no use", v.lasts(0, 0), 500);
         for (int i = 0; i < 3; i++) v.day(40);
         due("dry, no use", v.lasts(0, 0), 0);
+        OilRound u = oneHouse(101, 0, 0, 0, 50);
+        u.day(2);
+        due("one litre, no use", u.lasts(0, 0), 500);
+        due("one litre, some use", u.lasts(0, 1), 0);
         due("dry", v.lasts(0, 1), 0);
     }
 
@@ -468,6 +484,14 @@ public final class PromiseTests {
         x.lorry(500);
         due("its need is L", x.calls(), 1);
         due("no stock is asked for", x.count(3), 0);
+        // Of 24 that are due the last alone fits.
+        OilRound z = new OilRound();
+        for (int i = 0; i < 24; i++) z.house(0, 0, i < 23 ? 201 : 200);
+        z.day(40);
+        z.lorry(200);
+        due("the last of 24", z.calls(), 1 << 23);
+        z.lorry(201);
+        due("the first of 24", z.calls(), 1);
         // Eight at most, of equal ones the first numbers.
         OilRound y = new OilRound();
         for (int i = 0; i < 10; i++) y.house(0, 0, 100);
@@ -536,6 +560,17 @@ public final class PromiseTests {
         due("HIGH 0 comes last", w.calls(), 2);
         w.lorry(110);
         due("with room for both", w.calls(), 3);
+        // HIGH 1: DOWN 50 by 10 is 5 days, DOWN 4 by 1 is 4.
+        OilRound v = new OilRound();
+        v.house(0, 0, 100);
+        v.prior(0, 0, 0, 10, 0);
+        v.house(0, 0, 100);
+        v.prior(1, 0, 0, 0, 1);
+        int[] colds = {40, 40, 16, 0, 0};
+        for (int cold : colds) v.day(cold);
+        v.look(10, 1);
+        v.lorry(100);
+        due("HIGH 1", v.calls(), 2);
     }
 
     private static void round() {
@@ -767,7 +802,7 @@ public final class PromiseTests {
         for (int i = 0; i < 25; i++) all.append("house 2 day;");
         due("300 bytes", feedText(x, all.toString()), 300);
         due("25 plans", x.plans(), 25);
-        // The least bytes of a plan: 33 of nine.
+        // Hardly a blank.
         all.setLength(0);
         for (int i = 0; i < 27; i++) all.append("house2day;\n");
         due("297 bytes", feedText(x, all.toString()), 297);
@@ -802,7 +837,8 @@ public final class PromiseTests {
             "housee 0 day;", "househouse 0 day;", "hous e 0 day;", "House 0 day;", "house 0 Day;", "house 0 days;",
             "house 0 da;", "house\t0 day;", "house 0\rday;", "house -1 day;", "house 0 day,", "house 0 day;\u00ff",
             "house 0 day;  x", "house 0 day; house 3 day;", "house 0 day; house 3 x;", "house 3 x; house 0 day;", "house 0 cap 1.5;",
-            "house 0 day\0;", "`", "{", "/", ":", "house0day;house1cap5;house2paid4@", "house 0 capp 5;", "house 0 paidd 5@1;"
+            "house 0 day\0;", "`", "{", "/", ":", "house0day;house1cap5;house2paid4@", "house 0 capp 5;", "house 0 paidd 5@1;",
+            "xouse 0 day;", "house 0 xay;", "house 0 capz 5;", "house 0 cap5z;", "house 0 acap 5;", "houseadayb"
         };
         int[] places = {
             0, 5, 6, 8, 7, 11, 12, 11, 13,
@@ -814,7 +850,8 @@ public final class PromiseTests {
             0, 0, 0, 0, 8, 8,
             8, 5, 7, 6, 11, 12,
             14, 19, 19, 6, 13,
-            11, 0, 0, 0, 0, 33, 8, 8
+            11, 0, 0, 0, 0, 33, 8, 8,
+            0, 8, 8, 12, 8, 0
         };
         String noHouse = "|house 3 day;|house 3|house 99999 day;|house 0 day; house 3 day;|house 0 day; house 3 x;"
             + "|house 3 x; house 0 day;|";
