@@ -85,6 +85,17 @@ final class PlanSentences {
         fault("house 0 da;", 8, 1);
         fault("house 0 days;", 8, 1);
         fault("hous 0 day;", 0, 1);
+        fault("xouse 0 day;", 0, 1);
+        fault("house 0 xay;", 8, 1);
+        fault("house 0 xap 5;", 8, 1);
+        fault("house 0 xaid 5@1;", 8, 1);
+        fault("house 0 cop 5;", 8, 1);
+        // a and z are letters, what stands beside them is none: it ends the name.
+        fault("housea 0 day;", 0, 1);
+        fault("housez 0 day;", 0, 1);
+        fault("house` 0 day;", 5, 1);
+        fault("house{ 0 day;", 5, 1);
+        fault("house 0 dayz;", 8, 1);
         fault("a", 0, 1);
         fault("z", 0, 1);
         told("house 0 day;", 1);

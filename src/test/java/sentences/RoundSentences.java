@@ -275,6 +275,15 @@ final class RoundSentences {
         Book.due("one day goes ahead of six", x.calls(), 4);
         x.lorry(1710);
         Book.due("both", x.calls(), 6);
+        // DOWN 250, 300, 50, 200: 5, 6, 1 and 4 days; each needs 100. The fewest are not the first, nor behind one with fewer.
+        OilRound y = withUse(new int[] {350, 400, 150, 300}, new int[] {50, 50, 50, 50});
+        Made.days(y, 0, 0);
+        y.look(10, 0);
+        int[] sets = {4, 4 + 8, 4 + 8 + 1, 4 + 8 + 1 + 2};
+        for (int i = 0; i < sets.length; i++) {
+            y.lorry(100 + 100 * i);
+            Book.due("so many of the fewest days: " + (i + 1), y.calls(), sets[i]);
+        }
     }
 
     private static void daysAreCut() {
@@ -334,6 +343,16 @@ final class RoundSentences {
         x.look(10, 1);
         x.lorry(100);
         Book.due("at cold 1: 0 days go ahead", x.calls(), 1);
+        // HIGH 1 is no HIGH 0: DOWN 4 by 1 is 4 days, ahead of DOWN 50 by 10.
+        OilRound y = new OilRound();
+        y.house(0, 0, 100);
+        y.prior(0, 0, 0, 10, 0);
+        y.house(0, 0, 100);
+        y.prior(1, 0, 0, 0, 1);
+        Made.days(y, 40, 40, 16, 0, 0);
+        y.look(10, 1);
+        y.lorry(100);
+        Book.due("HIGH 1", y.calls(), 2);
     }
 
     private static void thenByNumbers() {
@@ -395,6 +414,12 @@ final class RoundSentences {
         Book.due("800 litres", y.calls(), 127 + 256);
         y.lorry(801);
         Book.due("801 litres", y.calls(), 255);
+        // 23 that do not fit hide no last one that does.
+        OilRound z = new OilRound();
+        for (int i = 0; i < 24; i++) z.house(0, 0, i < 23 ? 201 : 200);
+        z.day(40);
+        z.lorry(200);
+        Book.due("the last of 24", z.calls(), 1 << 23);
     }
 
     private static void stockAnswers() {
