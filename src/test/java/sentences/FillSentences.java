@@ -12,6 +12,7 @@ final class FillSentences {
         less();
         lessThanTheTankHolds();
         narrowerIfNothingIsNoted();
+        narrowerBehindANotedOne();
         narrowerIfLessThanTheTankHolds();
         narrowerAfterADay();
         oneBehindTheOther();
@@ -140,6 +141,23 @@ final class FillSentences {
         }
         narrowed(row(4, 1, 8, 3), row(10, 0), 18, row(4, 1, 4, 1));
         narrowed(row(4, 1, 8, 3), row(10, 0), 46, row(8, 3, 8, 3));
+    }
+
+    /** What an earlier fill noted is not noted of this one: 17 was LESS, 47 was LEAK. */
+    private static void narrowerBehindANotedOne() {
+        Book.test(13, NARROWER);
+        int[] noted = {17, 47};
+        for (int q : noted) {
+            OilRound x = Made.one(1000, 4, 1, 8, 3);
+            Made.days(x, 10, 0);
+            x.fill(0, q);
+            Made.days(x, 10, 0);
+            x.fill(0, 32);
+            Book.due("told(0, 8) of the fill behind " + q, x.told(0, 8), 0);
+            // c stays 8, as (32 - 10) by 2 is more; d (32 - 2 * 4) by 10; a (32 - 10 * 2) by 2; b (32 - 16) by 10.
+            habitIs("behind fill(0, " + q + ")", x, 6, 2, 8, 2);
+            Book.due("told(0, 7)", x.told(0, 7), 2);
+        }
     }
 
     private static void narrowerIfLessThanTheTankHolds() {
